@@ -44,6 +44,7 @@ public final class PromisesTest {
     cutCode();
     decode();
     decodeOfChangedCode();
+    narrowInterval();
     outputSize();
     output();
     ratio();
@@ -325,6 +326,8 @@ public final class PromisesTest {
     observeBits(x, "1110");
     check.due("reset, no counter counts as looked at", 0, () -> x.collisions(0));
     check.due("reset again", 4, x::reset);
+    observeBits(x, "11111111" + "1");
+    check.due("reset, the phase begins anew", 273, () -> x.weight(0, 0));
     check.due("reset leaves the models", 2, x::modelCount);
     check.due("reset leaves the text", 1, x::size);
     check.due("reset leaves what was decoded", 1, x::outputSize);
@@ -851,6 +854,30 @@ public final class PromisesTest {
     x.decode(1);
     // 0xFEFF0000 is less than 0xFEFFF808, so the last bit is a one
     check.due("decode of a cut code", 1, () -> x.output(0));
+  }
+
+  /**
+   * A zero and 20 ones without models: low is 0x7FFFF801 and high 0x80000001, too near for a
+   * middle between them. One more one makes them equal, and all four bytes go out at once.
+   */
+  private static void narrowInterval() {
+    BitMixer x = new BitMixer();
+    x.feed(0x7FFFFFL, 3);
+    check.due("narrow interval, size", 8, x::encode);
+    int[] due = {0x7F, 0xFF, 0xF8, 0x01, 0, 0, 0, 0};
+    for (int i = 0; i < due.length; i++) {
+      int at = i;
+      check.due("narrow interval, code " + at, due[at], () -> x.code(at));
+    }
+    check.due("narrow interval, decoded", 0, () -> x.decode(3));
+    // a zero instead, and two more: low grows by one each time and stays below 0x80000000
+    x.cut(1);
+    x.feed(0xF8, 1);
+    check.due("narrow interval, zeros, size", 4, x::encode);
+    check.due("narrow interval, zeros, code 0", 0x7F, () -> x.code(0));
+    check.due("narrow interval, zeros, code 2", 0xF8, () -> x.code(2));
+    check.due("narrow interval, zeros, code 3", 0x04, () -> x.code(3));
+    check.due("narrow interval, zeros, decoded", 0, () -> x.decode(3));
   }
 
   // Promise 31
