@@ -448,9 +448,10 @@ public final class PromisesTest {
     check.due("counter, of another model", 2304, () -> x.counter(5, 1));
     check.due("counter, one that did not", 2048, () -> x.counter(0, 2));
     check.refused("counter of model 6", x, INDEX, () -> x.counter(6, 0));
+    BitMixer two = twoRates();
     for (int far : FAR) {
-      check.refused("counter of model " + far, x, INDEX, () -> x.counter(far, 0));
-      check.refused("counter " + far, x, INDEX, () -> x.counter(0, far));
+      check.refused("counter of model " + far, two, INDEX, () -> two.counter(far, 0));
+      check.refused("counter " + far, two, INDEX, () -> two.counter(0, far));
     }
     BitMixer y = new BitMixer();
     y.addModel(0, 2, 4);
