@@ -82,6 +82,13 @@ final class CoderEdges {
     x.cut(1);
     x.encode();
     codeIs("at first again, no bit", x, 0, 0, 0, 0);
+    // 640 zeros leave high alone: each byte that goes out is its 255, and 255 comes in
+    BitMixer zeros = withFill(0);
+    int[] end = {0xFE, 0xFB, 0x08, 0x07};
+    for (int i = 0; i < 83; i++) {
+      int position = i;
+      s.due("high stays 2^32 - 1, code(" + i + ")", i < 79 ? 255 : end[i - 79], () -> zeros.code(position));
+    }
     s.due("at first when decoding, x is 0", 255, () -> decodedFrom(0, 0, 0, 0));
     s.due("at first when decoding, x is 2^32 - 1", 0, () -> decodedFrom(255, 255, 255, 255));
   }

@@ -357,6 +357,11 @@ final class DescriptionEdges {
     Scene.observing(x, ONES);
     s.due("of other weights, rounded down", 2540, x::mixed);
     s.due("of other weights, what was rounded", true, () -> (273 * 2944 + 239 * 2079) % 512 == 113);
+    // 239 * 2402 + 273 * 2703 + 239 * 2231 is 751 * 2457 - 1
+    BitMixer three = Scene.observing(withModels(0, 4, 5, 4, 6), "1".repeat(12));
+    s.due("a sum that is one less than a whole multiple", 2456, three::mixed);
+    s.due("the weight of that sum", 273, () -> three.weight(1, 4));
+    s.due("the prediction of that sum", 2703, () -> three.prediction(1));
     s.due("the least", 3, () -> encoded(withModels(0, 9, 2), 0, 80).mixed());
     s.due("the least of six", 3, () -> encoded(withModels(0, 9, 2, 2, 2, 2, 2, 2), 0, 80).mixed());
     s.due("the greatest", 4093, () -> encoded(withModels(0, 9, 2), 255, 80).mixed());
