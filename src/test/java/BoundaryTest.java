@@ -5,6 +5,7 @@
 public final class BoundaryTest {
   public static void main(String[] args) {
     Sentences s = new Sentences();
+    new WholeEdges(s).run();
     new DescriptionEdges(s).run();
     new CoderEdges(s).run();
     new ModelEdges(s).run();

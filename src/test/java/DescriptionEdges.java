@@ -13,7 +13,6 @@ final class DescriptionEdges {
   }
 
   void run() {
-    life();
     text();
     bitsOfAByte();
     models();
@@ -55,40 +54,6 @@ final class DescriptionEdges {
     x.fill(value, many);
     x.encode();
     return x;
-  }
-
-  private void life() {
-    s.says("What it is",
-        "An object is used for at most 512 calls after it has been made; what later calls answer is free.");
-    BitMixer bits = new BitMixer();
-    Scene.observing(bits, "1".repeat(511));
-    s.due("the 512th call behind 511 bits", 511, bits::observed);
-    BitMixer models = new BitMixer();
-    for (int i = 0; i < 255; i++) {
-      models.addModel(3, 7, 9);
-      models.removeModel();
-    }
-    models.addModel(3, 7, 9);
-    s.due("the 512th call behind 256 models", 1, models::modelCount);
-    BitMixer codes = new BitMixer();
-    codes.fill(255, 80);
-    for (int i = 0; i < 255; i++) {
-      codes.encode();
-      codes.decode(80);
-    }
-    s.due("the 512th call behind 255 encodings and decodings", 84, codes::codeSize);
-    BitMixer all = encoded(withModels(3, 9, 2, 3, 4, 5, 6, 7), 170, 80);
-    for (int i = 0; i < 503; i++) {
-      all.observe(i % 2 == 0);
-    }
-    s.due("the 512th call behind all bits that there can be", 640 + 503, all::observed);
-    // the same bits, one by one in 504 calls and as a text in two
-    BitMixer byBits = withModels(2, 5, 2, 3, 4, 5, 6, 7);
-    Scene.observing(byBits, "01100001".repeat(63));
-    long error = byBits.error();
-    BitMixer byText = encoded(withModels(2, 5, 2, 3, 4, 5, 6, 7), 0x61, 63);
-    s.due("the 511th call behind 504 bits of six models", byText.error(), () -> error);
-    s.due("the 512th call behind 504 bits of six models", byText.collisions(5), () -> byBits.collisions(5));
   }
 
   private void text() {

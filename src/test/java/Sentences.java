@@ -25,6 +25,12 @@ final class Sentences {
     tested.computeIfAbsent(section, s -> new LinkedHashSet<>()).add(sentence);
   }
 
+  /** This sentence asks for nothing, so that no test can be for it. */
+  void leavesFree(String section, String sentence) {
+    says(section, sentence);
+    lookedAtHere++;
+  }
+
   void due(String what, Object want, Check.Call call) {
     lookedAtHere++;
     check.due(here + ": " + what, want, call);
@@ -59,13 +65,12 @@ final class Sentences {
     check.due(here + ", something was looked at", true, () -> many > 0);
   }
 
-  /** A sentence of the promises or their description without a test is a fault, too. */
+  /** A sentence of the document without a test is a fault, too. */
   void end() {
     endSentence();
+    check.due("the sections of the document", 4 + 34, () -> document.sections().size());
     for (String section : document.sections()) {
-      if (section.equals("Description") || section.startsWith("Promise ")) {
-        lookForTests(section);
-      }
+      lookForTests(section);
     }
     check.end();
   }
