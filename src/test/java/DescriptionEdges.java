@@ -484,6 +484,16 @@ final class DescriptionEdges {
     s.due("another c and the same node", 1, () -> seen(2, 9, 2, bytes + "0").collisions(0));
     s.due("another c and the same nodes", 8, () -> seen(2, 9, 2, bytes + ZEROS).collisions(0));
     s.due("the same c and the same nodes", 0, () -> seen(3, 9, 2, ZEROS.repeat(5)).collisions(0));
+    // behind 1 and 0: 73 * c + node is 147 for c 2 and node 1, and again for c 1 and node 74
+    s.due("the same 73 * c + node is to come", 0, () -> seen(1, 9, 2, byteBits(1, 0) + "001010").collisions(0));
+    s.due("the same 73 * c + node", 1, () -> seen(1, 9, 2, byteBits(1, 0) + "0010100").collisions(0));
+    // c + node is 256 for c 1 and node 255, and again for c 255 and node 1; both look at counter 8 of 16
+    s.due("the same c + node is to come", 4, () -> seen(1, 4, 2, byteBits(254)).collisions(0));
+    s.due("the same c + node", 5, () -> seen(1, 4, 2, byteBits(254) + "1").collisions(0));
+    // c is 16843524 behind 0, 3, 254, and 2^24 less behind 1, 0, 0: 256 * c and a node do not fit 32 bits
+    String far = byteBits(0, 3, 254, 1, 0, 0);
+    s.due("a c that is 2^24 less is to come", 0, () -> seen(3, 9, 2, far).collisions(0));
+    s.due("a c that is 2^24 less", 1, () -> seen(3, 9, 2, far + "0").collisions(0));
     BitMixer looked = seen(0, 4, 2, "1111");
     looked.prediction(0);
     looked.index(0);
